@@ -1025,6 +1025,7 @@ public final class QuakeLists {
     private static final class Signs {
         private static final int MOST = 48;
         private static final int MOST_DIGITS = 4;
+        private static final int NUMBERS_OF_RULE = 4;
         /** What ends the numbers of a rule: d, m, n, p. */
         private static final char[] ENDS = {',', '>', ':', ';'};
 
@@ -1056,7 +1057,7 @@ public final class QuakeLists {
                     return place;
                 }
                 digits = ends ? 0 : digits + 1;
-                number = ends ? (number + 1) % ENDS.length : number;
+                number = ends ? (number + 1) % NUMBERS_OF_RULE : number;
             }
             return number == 0 && digits > 0 ? NONE : count;
         }
@@ -1071,7 +1072,7 @@ public final class QuakeLists {
                     value = value * 10 + sign[place] - '0';
                 } else {
                     forecast.take(number, value);
-                    number = (number + 1) % ENDS.length;
+                    number = (number + 1) % NUMBERS_OF_RULE;
                     value = 0;
                 }
             }
