@@ -65,6 +65,7 @@ public final class CountsTest {
         x.quake(0, 1, 0, 0, 30, 1);
         due("slope with no rest, upper", x.slope(0, 1, 30, 0), 2);
         due("slope with no rest, lower", x.slope(0, 1, 30, 1), 1);
+        due("2 by 1 + 60, lower", x.slope(0, 1, 0, 1), 61);
         x.quake(1, 1, 0, 0, 35, 9);
         x.quake(1, 1, 0, 0, 25, 1);
         due("2 * 2 by 2 + 2 * 5, upper", x.slope(-1, 9, 30, 0), 1);
@@ -102,6 +103,14 @@ public final class CountsTest {
         x.blast(1, true);
         due("without the blast, upper", x.alike(0, 1, 50, 0), 1);
         due("without the blast, lower", x.alike(0, 1, 50, 1), 3);
+        x.blast(1, false);
+        x.mend(2, 50);
+        due("one of two great ones or both come to A, upper", x.alike(0, 1, 50, 0), 5);
+        due("one of two great ones or both come to A, lower", x.alike(0, 1, 50, 1), 6);
+        x.mend(1, 0);
+        x.mend(3, 0);
+        due("greatness 0 is dealt, too, upper", x.alike(0, 1, 50, 0), 5);
+        due("greatness 0 is dealt, too, lower", x.alike(0, 1, 50, 1), 6);
         due("one list", x.alike(1, 1, 91, 2), UNKNOWN);
         due("all lists", x.alike(-1, 1, 0, 0), UNKNOWN);
         due("list 3", x.alike(0, 3, 0, 0), UNKNOWN);

@@ -154,6 +154,12 @@ public final class ForecastsTest {
         x.quake(0, 20, 0, 0, 5, 20);
         due("third rule", x.tells(0, 22), 100);
         due("none", x.tells(0, 23), 7);
+        forecast(x, "1,0>9:1;1,0>9:2;1,0>9:3;1,0>9:4;9,0>2:9;1,0>9");
+        due("a fault in the sixth", x.forecast(), QuakeLists.NO);
+        x.wipe();
+        forecast(x, "1,0>9:1;1,0>9:2;1,0>9:3;1,0>9:4;9,0>1:99;6");
+        due("fifth rule", x.tells(1, 12), 99);
+        due("behind the fifth rule", x.tells(1, 25), 6);
     }
 
     private static void scores() {
@@ -211,6 +217,7 @@ public final class ForecastsTest {
         due("a quake: all of f", x.best(0, 1, 30, 1, 1), 10);
         due("one of two days", x.best(0, 1, 30, 0, 1), 5);
         due("one of four days: 250, so 2 and 3 are alike", x.best(0, 1, 30, 0, 3), 2);
+        due("one of ten days", x.best(0, 1, 30, 0, 9), 1);
         due("with itself the least", x.best(0, 0, 30, 0, 3), 0);
         due("f 2, and outside", x.best(2, 0, 91, 0, 0), QuakeLists.UNKNOWN);
         due("g -1", x.best(0, -1, 0, 0, 0), QuakeLists.UNKNOWN);

@@ -98,6 +98,9 @@ public final class ListsTest {
         due("blast below", x.blast(-1, true), QuakeLists.UNKNOWN);
         due("blast above", x.blast(2, true), QuakeLists.UNKNOWN);
         due("no blasts", x.told(5), 0);
+        x.blast(0, true);
+        x.blast(1, true);
+        due("two blasts", x.told(5), 2);
     }
 
     private static void mending() {

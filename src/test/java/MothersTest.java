@@ -12,6 +12,7 @@ public final class MothersTest {
         mother();
         family();
         draw();
+        drawAtEnds();
         rate();
         greatestWeights();
         DUE.end();
@@ -200,6 +201,7 @@ public final class MothersTest {
         due("none on day 0", x.families(0, 0), QuakeLists.NONE);
         due("day 4000", x.families(4000, 0), QuakeLists.OUTSIDE);
         due("day -1", x.families(-1, -1), QuakeLists.OUTSIDE);
+        due("2 is alone on day 4", x.family(2, 4, 2), 0);
         x.blast(0, true);
         due("1 stands alone then", x.family(1, 49, 1), 1);
         due("and is a first one", x.families(49, 1), 1);
@@ -238,6 +240,34 @@ public final class MothersTest {
         due("not counted", x.draw(1, 1, 29), QuakeLists.STATE);
         due("j 3, and outside", x.draw(0, 3, 30), QuakeLists.UNKNOWN);
         due("j -1", x.draw(1, -1, 30), QuakeLists.UNKNOWN);
+    }
+
+    /** All weights are 1, so every lot stands at an end. */
+    private static void drawAtEnds() {
+        QuakeLists x = new QuakeLists();
+        setAll(x, 0, 1);
+        setAll(x, 1, 1);
+        setAll(x, 2, 1);
+        x.set(3, 1);
+        x.quake(0, 9, 0, 0, 10, 9);
+        x.quake(0, 1, 0, 0, 10, 1);
+        x.quake(0, 5, 0, 0, 10, 5);
+        x.quake(0, 4, 0, 0, 10, 4);
+        x.blast(3, true);
+        for (int seed = 1; seed <= 30; seed++) {
+            long moved = seed;
+            for (int i = 0; i < 3; i++) {
+                moved = moved * 16807 % 2147483647L;
+            }
+            due("drawn at an end by " + seed, x.draw(seed, 0, 9), new int[] {QuakeLists.NONE, 1, 2}[(int) (moved % 3)]);
+        }
+        due("calm is as great as all", x.families(9, -1), 3);
+        x.step(0, 1, 2);
+        due("0 is the deepest", x.family(1, 9, 2), 1);
+        x.mend(2, 20);
+        x.step(0, 2, 3);
+        due("0 is the deepest of three", x.family(1, 9, 2), 2);
+        due("0 is no first one", x.families(9, -1), 1);
     }
 
     private static void rate() {

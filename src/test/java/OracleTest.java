@@ -2,7 +2,7 @@ import java.util.Random;
 
 /** Runs of calls drawn by fixed seeds, answered by the class and by the oracle. */
 public final class OracleTest {
-    private static final int RUNS = 600;
+    private static final int RUNS = 400;
     private static final int CALLS = 400;
 
     private final Random lots;
