@@ -308,16 +308,8 @@ public final class QuakeLists {
     }
 
     public int best(int f, int g, int m, int from, int to) {
-        Forecast first = forecastOf(f);
-        Forecast second = forecastOf(g);
-        if (first == null || second == null) {
-            return UNKNOWN;
-        }
-        if (!isStretch(from, to) || !isGreatness(m)) {
-            return OUTSIDE;
-        }
-        scores.work(quakes, first, second, m, from, to);
-        return scores.leastMix();
+        long score = scoreOfMix(f, g, MOST_MIX, m, from, to);
+        return score < 0 ? (int) (score - LOST) : scores.leastMix();
     }
 
     // ---- 5 ground
@@ -465,6 +457,7 @@ public final class QuakeLists {
         return within(f, 0, forecastCount - 1) ? forecasts[f] : null;
     }
 
+    /** Scores of every other mixture are worked on the way: best reads them. */
     private long scoreOfMix(int f, int g, int w, int m, int from, int to) {
         Forecast first = forecastOf(f);
         Forecast second = forecastOf(g);
