@@ -1,6 +1,7 @@
 /** Counts the answers that are not the ones that are due. */
 final class Due {
     private final String test;
+    private String sentence = "";
     private int wrong = 0;
     private int asked = 0;
 
@@ -8,11 +9,16 @@ final class Due {
         this.test = test;
     }
 
+    /** The document's words that the next answers belong to. */
+    void sentence(String words) {
+        sentence = " [" + words + "]";
+    }
+
     void due(String call, long got, long want) {
         asked++;
         if (got != want) {
             wrong++;
-            System.out.println(test + ": " + call + " answered " + got + ", due is " + want);
+            System.out.println(test + sentence + ": " + call + " answered " + got + ", due is " + want);
         }
     }
 
