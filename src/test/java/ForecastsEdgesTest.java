@@ -39,6 +39,7 @@ public final class ForecastsEdgesTest {
         scoreRefuses();
         mixedByZeroToTen();
         mixedIsCut();
+        mixedOfRules();
         mixedRefuses();
         bestIsTheLeastSuch();
         bestAtEnds();
@@ -549,6 +550,22 @@ public final class ForecastsEdgesTest {
         due("9 by 10 on a day with a quake", x.mixed(0, 1, 9, 0, 5, 5), 1000000);
     }
 
+    /** What f and g tell changes on days of their own: f on 11 and 13, g on 11 and 16. */
+    private static void mixedOfRules() {
+        QuakeLists x = with("2,30>0:900;100", "4,20>0:500;0", "1,9>0:1;2,8>0:2;3,7>0:3;4,6>0:4;5,5>0:5;6");
+        add(x, 10, 30);
+        x.quake(0, 11, 0, 0, 20, 11);
+        x.mend(1, 29);
+        // days 9 to 17; f: 100 100 900 900 100 .., g: 0 0 500 500 500 500 500 0 0, a quake of 30 on day 10
+        long want = 50 * 50 + 950 * 950 + 2 * 700 * 700 + 3 * 300 * 300 + 2 * 50 * 50;
+        due("w 5", x.mixed(0, 1, 5, 30, 9, 17), want);
+        due("the other way", x.mixed(1, 0, 5, 30, 9, 17), want);
+        due("f alone", x.mixed(0, 1, 10, 30, 9, 17), 10000 + 810000 + 2 * 810000 + 5 * 10000);
+        due("g alone", x.mixed(0, 1, 0, 30, 9, 17), 1000000 + 5 * 250000);
+        due("a score of five rules", x.score(2, 90, 9, 17), 36 + 36 + 1 + 1 + 4 + 9 + 16 + 25 + 36);
+        due("five rules, mixed with two", x.mixed(2, 0, 10, 90, 9, 17), 36 + 36 + 1 + 1 + 4 + 9 + 16 + 25 + 36);
+    }
+
     private static void mixedRefuses() {
         DUE.sentence("SCORE of f and g MIXED by w. UNKNOWN, OUTSIDE, likewise");
         QuakeLists x = with("0", "0");
@@ -587,6 +604,12 @@ public final class ForecastsEdgesTest {
         due("w 10", x.best(0, 1, 30, 1, 1), 10);
         due("w 10, as nothing is so great", x.best(1, 0, 31, 1, 1), 10);
         due("w 5", x.best(0, 1, 30, 0, 1), 5);
+        QuakeLists y = with("1000", "0");
+        for (int w = 0; w <= 10; w++) {
+            due(w + " of ten days", y.best(0, 1, 30, 0, 9), w);
+            due(w + " of ten days, the other way", y.best(1, 0, 30, 0, 9), 10 - w);
+            add(y, w, 30);
+        }
         due("of all days", x.best(0, 1, 30, 0, 3999), 0);
     }
 

@@ -29,8 +29,11 @@ public final class ListsEdgesTest {
         theMostPairs();
         theLeastMissInAll();
         theFirstByPartners();
+        theFirstQuakeDecides();
+        theTwelfthQuakeDecidesLast();
         theLesserNumberFirst();
         noneLast();
+        joinedOneAfterAnother();
         blastTellsWhatItWas();
         mendTellsWhatItWas();
         aboutEachWhat();
@@ -543,6 +546,46 @@ public final class ListsEdgesTest {
         due("the other way: partner of 3", x.join(1, 0, 3), 1);
     }
 
+    /**
+     * By greatness they stand in a row: 1, 5, 3, 7, 0, 8, 2, 6, 4. Four pairs with a miss of 19 leave 1 or 4 over:
+     * 0's partner is the lesser one if it is 1 that has none, though all others would be better off by the other way.
+     */
+    private static void theFirstQuakeDecides() {
+        QuakeLists x = new QuakeLists();
+        int[] ofA = {29, 10, 39, 19, 48};
+        int[] ofB = {15, 43, 24, 34};
+        for (int greatness : ofA) {
+            x.quake(0, 5, 0, 0, greatness, 5);
+        }
+        for (int greatness : ofB) {
+            x.quake(1, 5, 0, 0, greatness, 5);
+        }
+        due("pairs", x.join(0, 1, -1), 4);
+        due("miss", x.join(0, 1, -2), 19);
+        int[] partner = {7, NONE, 8, 5, 6};
+        for (int quake = 0; quake < 5; quake++) {
+            due("partner of " + quake, x.join(0, 1, quake), partner[quake]);
+        }
+    }
+
+    /** Eleven of a are too far off, the twelfth is as near to all twelve of b. */
+    private static void theTwelfthQuakeDecidesLast() {
+        QuakeLists x = new QuakeLists();
+        alikeOnes(x, 1, 12);
+        for (int i = 0; i < 11; i++) {
+            x.quake(0, 5, 9, 9, 40, 5);
+        }
+        alikeOnes(x, 0, 1);
+        due("the first of b", x.join(0, 1, 23), 0);
+        due("the eleventh of a", x.join(0, 1, 22), NONE);
+        x.mend(0, 41);
+        due("the second of b is nearer", x.join(0, 1, 23), 1);
+        for (int i = 1; i < 11; i++) {
+            x.mend(i, 41);
+        }
+        due("the last of b is nearer", x.join(0, 1, 23), 11);
+    }
+
     private static void theLesserNumberFirst() {
         DUE.sentence("(that with the lesser number first");
         QuakeLists x = new QuakeLists();
@@ -574,6 +617,37 @@ public final class ListsEdgesTest {
             due("of twelve for eleven, partner of " + i, full.join(0, 1, 11 + i), i);
         }
         due("of twelve for eleven, partner of the last", full.join(0, 1, 22), NONE);
+    }
+
+    /** What was joined before leaves no trace: every answer is that of an object that was never asked before. */
+    private static void joinedOneAfterAnother() {
+        QuakeLists x = new QuakeLists();
+        joinable(x);
+        int[][] lists = {{0, 1}, {1, 2}, {2, 0}, {1, 0}, {0, 2}, {2, 1}, {0, 1}};
+        int[] tenths = {20, 3, 5, 0, 20, 1};
+        for (int v : tenths) {
+            for (int[] pair : lists) {
+                QuakeLists fresh = new QuakeLists();
+                joinable(fresh);
+                x.set(2, v);
+                fresh.set(2, v);
+                String call = "join " + pair[0] + " " + pair[1] + ", tenths " + v;
+                due(call + ", pairs", x.join(pair[0], pair[1], -1), fresh.join(pair[0], pair[1], -1));
+                due(call + ", miss", x.join(pair[0], pair[1], -2), fresh.join(pair[0], pair[1], -2));
+                for (int quake = pair[0]; quake < 30; quake += 9) {
+                    due(call + ", " + quake, x.join(pair[0], pair[1], quake), fresh.join(pair[0], pair[1], quake));
+                }
+            }
+        }
+    }
+
+    /** Ten in each list, of many differences. */
+    private static void joinable(QuakeLists x) {
+        x.set(0, 10);
+        x.set(1, 5);
+        for (int i = 0; i < 30; i++) {
+            x.quake(i % 3, i * i % 7, i % 5, i * 7 % 4, 40 + i * 11 % 23, 20);
+        }
     }
 
     private static void blastTellsWhatItWas() {

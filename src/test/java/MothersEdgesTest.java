@@ -37,6 +37,7 @@ public final class MothersEdgesTest {
         lotInThoseAhead();
         lotPassesByWhatWeighsNothing();
         lotMovesForCountedOnesAlone();
+        lotMovesUpToItself();
         lotOfTheFortieth();
         drawRefuses();
         rateOfDaysAhead();
@@ -571,6 +572,21 @@ public final class MothersEdgesTest {
         due("nor does what is behind it: 282475249 of 2 is 1", x.draw(1, 2, 50), 0);
         x.blast(3, true);
         due("nor does a blast behind it", x.draw(1, 2, 50), 0);
+    }
+
+    /** Lots of 1: 16807 of 1 is 0, 282475249 of 2 is 1, 1622650073 of 3 is 2, 984943658 of 4 is 2. */
+    private static void lotMovesUpToItself() {
+        QuakeLists x = weighing(1, 1, 1, 1);
+        int[] day = {3, 1, 4, 2};
+        for (int i = 0; i < 4; i++) {
+            add(x, day[i]);
+        }
+        // in the order: 1, 3, 0, 2
+        due("the first in the order", x.draw(1, 1, 9), NONE);
+        due("the second in the order", x.draw(1, 3, 9), 1);
+        due("the third in the order", x.draw(1, 0, 9), 3);
+        due("the fourth in the order", x.draw(1, 2, 9), 3);
+        due("drawing changes nothing", x.draw(1, 3, 9), 1);
     }
 
     private static void lotOfTheFortieth() {
