@@ -2,8 +2,9 @@ import java.util.Random;
 
 /** Runs of calls drawn by fixed seeds, answered by the class and by the oracle. */
 public final class OracleTest {
-    private static final int RUNS = 400;
-    private static final int CALLS = 400;
+    private static final int RUNS = 1300;
+    /** An object is good for 512 calls, and one round of asking takes less than 70 of them. */
+    private static final int CALLS = 440;
 
     private final Random lots;
     private final QuakeLists lists = new QuakeLists();
@@ -15,6 +16,7 @@ public final class OracleTest {
     private final int cells;
     private final int greatest;
     private final int listsUsed;
+    private int asked = 0;
 
     private OracleTest(int seed, Due due) {
         lots = new Random(seed);
@@ -31,7 +33,7 @@ public final class OracleTest {
         for (int seed = 1; seed <= RUNS && !due.anyWrong(); seed++) {
             OracleTest test = new OracleTest(seed, due);
             test.begin();
-            for (int call = 0; call < CALLS && !due.anyWrong(); call++) {
+            while (test.asked < CALLS && !due.anyWrong()) {
                 test.ask(test.lots.nextInt(42));
             }
         }
@@ -81,6 +83,7 @@ public final class OracleTest {
     }
 
     private void check(String call, long got, long want) {
+        asked++;
         due.due(run + call, got, want);
     }
 

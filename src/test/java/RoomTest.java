@@ -3,7 +3,9 @@ import java.lang.management.ManagementFactory;
 
 /** All calls of a run live in one room: after the constructor only forecast() may make objects. */
 public final class RoomTest {
-    private static final int CALLS = 512;
+    /** With the calls that fill an object these stay below the 512 that it is good for. */
+    private static final int CALLS = 120;
+    private static final int KINDS = 15;
     private static final Due DUE = new Due("RoomTest");
     private static final ThreadMXBean ROOM = (ThreadMXBean) ManagementFactory.getThreadMXBean();
 
@@ -17,7 +19,9 @@ public final class RoomTest {
         long filled = used();
         DUE.yes("a new object is small: " + (made - before), made - before < 40000);
         DUE.yes("filling it makes six forecasts: " + (filled - made), filled - made < 4000);
-        for (int what = 0; what < 12; what++) {
+        for (int what = 0; what < KINDS; what++) {
+            x = new QuakeLists();
+            fill(x);
             dear(x, what);
             long start = used();
             long sum = 0;
@@ -71,7 +75,10 @@ public final class RoomTest {
             case 8: return x.few(8, 4, 50, 99, 1);
             case 9: return x.whole(-1, 3999);
             case 10: return x.worst(3999, 0);
-            default: return x.mean(4095) + x.curve(5) + x.share(39, 3, 3999, 0) + x.fault();
+            case 11: return x.mean(4095);
+            case 12: return x.curve(5);
+            case 13: return x.share(39, 3, 3999, 0);
+            default: return x.fault();
         }
     }
 }
